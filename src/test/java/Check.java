@@ -1,0 +1,42 @@
+/** Compares answers and exceptions with those that are due, and prints each one that is not. */
+final class Check {
+    /** One call of the face; the answer of a void call is null. */
+    interface Call {
+        Object answer();
+    }
+
+    private int wrong = 0;
+    private int checked = 0;
+
+    void due(String what, Object want, Call call) {
+        compare(what, String.valueOf(want), outcome(call));
+    }
+
+    /** Asks for exactly this class, so that a subclass thrown by the machine is caught. */
+    void refused(String what, Class<? extends RuntimeException> want, Call call) {
+        compare(what, "throws " + want.getName(), outcome(call));
+    }
+
+    void compare(String what, String want, String got) {
+        checked++;
+        if (!want.equals(got)) {
+            wrong++;
+            System.out.println(what + " answered " + got + ", due is " + want);
+        }
+    }
+
+    static String outcome(Call call) {
+        try {
+            return String.valueOf(call.answer());
+        } catch (RuntimeException thrown) {
+            return "throws " + thrown.getClass().getName();
+        }
+    }
+
+    void end() {
+        System.out.println(wrong == 0 ? checked + " answers are as due" : wrong + " of " + checked + " are not as due");
+        if (wrong != 0) {
+            System.exit(1);
+        }
+    }
+}
