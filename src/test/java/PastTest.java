@@ -130,6 +130,9 @@ public final class PastTest {
         CHECK.due("two replaced, two put in", 4, () -> measured(row(9, 2, 3, 4, 9, 6), eight));
         CHECK.due("half of it", 4, () -> measured(row(5, 6, 7, 8), eight));
         CHECK.due("the other half", 4, () -> measured(row(1, 2, 3, 4), eight));
+        CHECK.due("too many put in", -1, () -> measured(row(1), row(1, 2, 3, 4)));
+        CHECK.due("too many put in before it", -1, () -> measured(row(4), row(1, 2, 3, 4)));
+        CHECK.due("as many put in as may be", 2, () -> measured(row(1, 4), row(1, 2, 3, 4)));
         CHECK.due("kitten and sitting", 3, () -> measured(row(11, 9, 20, 20, 5, 14), row(19, 9, 20, 20, 9, 14, 7)));
     }
 

@@ -9,6 +9,7 @@ public final class ToldTest {
         theFourTriesInTheirOrder();
         anotherClassOrGenderIsNotTried();
         theChainInItsOrder();
+        theChainInNoOrderOfNumbers();
         eachLanguageHasItsNumbers();
         whatDoesNotFitIsPassedOver();
         staleIsToldToo();
@@ -86,6 +87,26 @@ public final class ToldTest {
         told(c, 9, 5, 1, 1, 2, 6);
         c.setFallback(5, 0);
         told(c, 9, 5, 1, 1, 0, 1);
+    }
+
+    /** The first of the chain is told even by its last try, whatever the later ones have. */
+    private static void theChainInNoOrderOfNumbers() {
+        PhraseCatalogue c = new PhraseCatalogue();
+        c.setFallback(2, 4);
+        c.setFallback(4, 1);
+        c.setFallback(1, 5);
+        c.setFallback(5, 3);
+        int[] fromTheEnd = {0, 3, 5, 1, 4};
+        for (int i = 0; i < fromTheEnd.length; i++) {
+            int language = fromTheEnd[i];
+            Fill.put(c, 6, language, 2, 0, language + 1);
+            told(c, 6, 2, 1, 1, language, 6);
+            Fill.put(c, 6, language, 0, 1, language + 1);
+            told(c, 6, 2, 1, 1, language, 1);
+        }
+        told(c, 6, 1, 1, 1, 1, 1);
+        Fill.put(c, 6, 2, 2, 0, 9);
+        told(c, 6, 2, 1, 1, 2, 6);
     }
 
     private static void eachLanguageHasItsNumbers() {
