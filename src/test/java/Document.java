@@ -5,12 +5,17 @@ import java.util.ArrayList;
 import java.util.LinkedHashMap;
 import java.util.List;
 import java.util.Map;
+import java.util.regex.Matcher;
+import java.util.regex.Pattern;
 
-/** The document's sentences by its sections, and which of them a test has quoted. */
+/** The document's lines and sentences by its sections, which of these a test has quoted, and its face. */
 final class Document {
     private static final Path PLACE = Path.of("..", "shared", "DOC.md");
+    private static final Pattern METHOD = Pattern.compile(" +public (\\w+ \\w+)(\\(.*\\))(.*);");
 
     private static final class Section {
+        String title = "";
+        final List<String> lines = new ArrayList<>();
         final StringBuilder text = new StringBuilder();
         final List<String> sentences = new ArrayList<>();
         final List<String> quotes = new ArrayList<>();
@@ -24,6 +29,7 @@ final class Document {
             if (line.startsWith("#")) {
                 at = sectionOf(line);
             } else if (at != null && !line.isBlank()) {
+                at.lines.add(line);
                 at.text.append(line).append('\n');
                 addSentences(at, line);
             }
@@ -36,7 +42,30 @@ final class Document {
         if (!name.equals("What it is") && !name.equals("Terms") && !name.startsWith("Promise ")) {
             return null;
         }
-        return sections.computeIfAbsent(name, unused -> new Section());
+        Section section = sections.computeIfAbsent(name, unused -> new Section());
+        section.title = headline.replaceFirst("^[^:]*: ?", "");
+        return section;
+    }
+
+    /** What a promise's headline says behind its number. */
+    String titleOf(String section) {
+        return sections.containsKey(section) ? sections.get(section).title : "";
+    }
+
+    List<String> linesOf(String section) {
+        return sections.containsKey(section) ? sections.get(section).lines : List.of();
+    }
+
+    /** The methods of the public face, without "public" and the names of the arguments. */
+    static List<String> methodsOfTheFace() throws IOException {
+        List<String> methods = new ArrayList<>();
+        for (String line : Files.readAllLines(PLACE)) {
+            Matcher method = METHOD.matcher(line);
+            if (method.matches()) {
+                methods.add(method.group(1) + method.group(2).replaceAll("(\\w+) \\w+", "$1") + method.group(3));
+            }
+        }
+        return methods;
     }
 
     /** The headlines of the interface, and the words ahead of a paragraph ("Numbers."), are no sentences to test. */

@@ -27,6 +27,17 @@ final class Model {
     private final int[][] numbers = {{1, 1}, {1, 1}, {1, 1}, {1, 1}, {1, 1}, {1, 1}};
     private List<Integer> signsOfDraft = new ArrayList<>();
 
+    Model copy() {
+        Model other = new Model();
+        other.log.addAll(log);
+        for (int language = 0; language < 6; language++) {
+            other.fallback[language] = fallback[language];
+            other.numbers[language] = numbers[language];
+        }
+        other.signsOfDraft.addAll(signsOfDraft);
+        return other;
+    }
+
     private static void index(boolean there) {
         if (!there) {
             throw new IndexOutOfBoundsException();
